@@ -754,9 +754,10 @@ public final class HungInStorm {
         boolean hunt(Storm storm, int town, Course prey) {
             empty(now);
             now[cell(storm.firstLevel[town], storm.firstPlace[town])] = 1L << storm.orders.gas[town];
-            for (day = 1; day <= HUNT_DAYS && prey.floats(day); day++) {
+            for (int d = 1; d <= HUNT_DAYS && prey.floats(d); d++) {
+                day = d;
                 passDay(storm, town);
-                long gases = now[cell(prey.level[day], prey.place[day])];
+                long gases = now[cell(prey.level[d], prey.place[d])];
                 if (gases != 0) {
                     gas = highest(gases);
                     return true;

@@ -58,7 +58,9 @@ public final class ChangesTest {
 
     private static void fill() {
         HungInStorm x = new HungInStorm();
+        Check.dueTown(x, 0, 0, 0, 0, 20);
         Check.due("fill(0, 60)", x.fill(0, 60), 20);
+        Check.dueTown(x, 0, 0, 0, 0, 60);
         Check.due("fill(0, 0)", x.fill(0, 0), 60);
         Check.due("fill(1, 7)", x.fill(1, 7), 20);
         Check.dueTown(x, 0, 0, 0, 0, 0);
@@ -137,6 +139,12 @@ public final class ChangesTest {
         Check.due("town(0, 0, 2)", x.town(0, 0, 2), 30);
         Check.due("undo()", x.undo(), 0);
         Check.due("town(0, 0, 2)", x.town(0, 0, 2), 20);
+        // A town that had no gas has none again.
+        HungInStorm y = Check.laid("v0,0;t0,0,0,1,0;m0,1,1;");
+        y.fill(0, 9);
+        Check.due("undo()", y.undo(), 0);
+        Check.due("town(0, 0, 2)", y.town(0, 0, 2), 0);
+        Check.due("count(2)", y.count(2), 1);
     }
 
     private static void year() {
@@ -224,6 +232,18 @@ public final class ChangesTest {
         x.back();
         Check.due("count(2)", x.count(2), 2);
         Check.dueTown(x, 0, 1, 0, 2, 37);
+        // Another town's errand, on another day, the other way, comes where a kept one was.
+        HungInStorm y = new HungInStorm();
+        y.errand(0, 2, true);
+        y.keep();
+        y.undo();
+        y.errand(1, 3, false);
+        Check.dueTown(y, 0, 2, 0, 4, 18);
+        Check.dueTown(y, 1, 3, 0, 6 + 5 + 5 + 2, 17);
+        y.back();
+        Check.dueTown(y, 0, 1, 0, 2, 19);
+        Check.dueTown(y, 0, 2, 1, 7, 16);
+        Check.dueTown(y, 1, 3, 1, 21, 17);
     }
 
     private static void backForgetsUndo() {

@@ -148,6 +148,28 @@ public final class MarketsTest {
         dueCatch(struck, 0, 1, 1, 9);
         dueCatch(struck, 2, 1, 1, 1);
         dueCatch(struck, 3, 1, 1, 3);
+        HungInStorm most = Check.laid("v1,1;t0,0,60,4,2;t0,0,60,4,2;");
+        dueCatch(most, 0, 1, 1, 60);
+        HungInStorm half = Check.laid("v1,1;t0,0,60,4,2;t0,0,60,4,2;t0,0,1,4,1;z0,1;");
+        dueCatch(half, 0, 1, 1, 30);
+        dueCatch(half, 2, 1, 1, 0);
+        HungInStorm torn = Check.laid("v1,1;t0,0,1,4,1;t0,0,2,4,1;t0,0,3,4,1;t0,0,60,4,2;");
+        dueCatch(torn, 0, 3, 1, 0);
+        dueCatch(torn, 1, 3, 1, 0);
+        dueCatch(torn, 2, 3, 1, 1);
+        // Too poor to go up into the lightning where the other one is.
+        HungInStorm poor = Check.laid("v1,1;v1,1;t0,0,3,4,2;t1,0,9,1,2;z1,1;");
+        dueCatch(poor, 0, 1, NONE, NONE);
+        // One without gas comes down into it and has still none.
+        HungInStorm empty = Check.laid("v1,1;v1,1;t1,0,0,4,2;t0,0,9,1,2;z0,1;");
+        dueCatch(empty, 0, 1, 1, 0);
+        // Above the highest level there is none, nor below the lowest.
+        HungInStorm one = Check.laid("v1,1;t0,0,60,1,2;t0,23,60,1,2;");
+        dueCatch(one, 0, 1, NONE, NONE);
+        HungInStorm six = Check.laid("v1,1;v1,1;v1,1;v1,1;v1,1;v1,1;t5,0,60,1,2;t5,23,60,1,2;t0,0,60,9,2;");
+        dueCatch(six, 0, 1, NONE, NONE);
+        dueCatch(six, 0, 2, 5, 60);
+        dueCatch(six, 2, 0, 5, 15);
         // One that is without gas sinks, by which it is where the other one is.
         HungInStorm sinks = Check.laid("v1,0;v1,0;t1,0,0,4,0;t0,0,20,4,0;t1,0,1,1,0;t0,0,0,1,0;");
         dueCatch(sinks, 0, 1, 1, 0);
@@ -190,6 +212,11 @@ public final class MarketsTest {
         dueBest("keeps(1, 4)", x.keeps(1, 4, 0), x.keeps(1, 4, 1), 0, 1);
         dueBest("keeps(1, 60), lost", x.keeps(1, 60, 0), x.keeps(1, 60, 1), 0, 0);
         Check.dueTown(x, 0, 0, 0, 0, 20);
+        // Lightning at all levels there are; six of them alike.
+        HungInStorm one = Check.laid("v0,0;t0,0,9,1,0;z0,1;");
+        dueBest("keeps(0, 1), one level", one.keeps(0, 1, 0), one.keeps(0, 1, 1), 0, 3);
+        HungInStorm six = Check.laid("v0,0;".repeat(6) + "t5,0,9,1,0;z0,1;z1,1;z2,1;z3,1;z4,1;");
+        dueBest("keeps(0, 1), six levels", six.keeps(0, 1, 0), six.keeps(0, 1, 1), 5, 8);
         Check.due("keeps(2, 0, 0)", x.keeps(2, 0, 0), BAD);
         Check.due("keeps(-1, 0, 0)", x.keeps(-1, 0, 0), BAD);
         Check.due("keeps(0, 61, 0)", x.keeps(0, 61, 0), BAD);
@@ -209,6 +236,11 @@ public final class MarketsTest {
         Check.dueTown(x, 0, 0, 0, 0, 9);
         HungInStorm one = Check.laid("v0,1;v1,1;t1,0,9,1,2;");
         dueBest("one alone", one.trades(0, 60, 0), one.trades(0, 60, 1), 0, 0);
+        // It could come down to the other one only from a level that there is not.
+        HungInStorm above = Check.laid("v0,1;v1,1;t0,0,9,1,2;t1,20,9,1,2;m0,5,0;");
+        dueBest("two levels", above.trades(0, 60, 0), above.trades(0, 60, 1), 0, 0);
+        HungInStorm six = Check.laid("v0,1;".repeat(6) + "t5,0,9,1,2;t5,0,9,1,2;m1,3,0;");
+        dueBest("six levels", six.trades(0, 60, 0), six.trades(0, 60, 1), 4, 58);
         Check.due("trades(1, 1, 0)", one.trades(1, 1, 0), BAD);
         Check.due("trades(-1, 1, 0)", one.trades(-1, 1, 0), BAD);
         Check.due("trades(0, 0, 0)", one.trades(0, 0, 0), BAD);

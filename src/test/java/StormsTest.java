@@ -118,6 +118,10 @@ public final class StormsTest {
         dueFault("v2,0", 0);
         dueFault("v2,", 0);
         dueFault("v2,;", 0);
+        dueFault("v2,0,", 0);
+        dueFault("v2,0,;", 0);
+        dueFault("v2,0,x", 0);
+        dueFault("v2,0x", 0);
         dueFault("v,0;", 0);
         dueFault("v2;", 0);
         dueFault("v2,0,0;", 0);
@@ -196,6 +200,7 @@ public final class StormsTest {
         Check.dueTown(x, 0, 0, 1, 5, 9);
         Check.dueTown(x, 1, 0, 0, 7, 8);
         Check.due("lay() once more", x.lay(), 2);
+        Check.dueTown(x, 0, 2, 1, 13, 3);
         Check.due("count(6)", x.count(6), 63);
         x.wipe();
         Check.write(x, "t0,0,0,1,0;t0,0,0,1,0;t0,0,0,1,0;t0,0,0,1,0;t0,0,0,1,0;t0,0,0,1,0;v0,0;");
@@ -203,6 +208,22 @@ public final class StormsTest {
         Check.due("count(0)", x.count(0), 1);
         Check.due("count(2)", x.count(2), 0);
         Check.due("count(3)", x.count(3), 0);
+        // What was answered of one storm is not told of the next one, and a text that is only read lays nothing.
+        Check.dueTown(x, 0, 0, 0, 0, 0);
+        x.wipe();
+        Check.write(x, "v5,0;v5,0;t1,9,33,1,3;");
+        x.fault();
+        Check.due("count(1)", x.count(1), 6);
+        Check.dueTown(x, 0, 0, 0, 0, 0);
+        Check.due("lay() of another", x.lay(), 1);
+        Check.dueTown(x, 0, 0, 1, 9, 33);
+        x.wipe();
+        Check.write(x, "v8,1;v8,1;v8,1;t0,0,0,1,0;t1,1,1,1,1;x");
+        Check.due("fault()", x.fault(), 37);
+        Check.due("count(0)", x.count(0), 2);
+        Check.due("count(1)", x.count(1), 1);
+        Check.due("level(0, 0)", x.level(0, 0), 5);
+        Check.dueTown(x, 0, 1, 1, 14, 33);
     }
 
     private static void dueNoStorm(String text) {
@@ -322,6 +343,9 @@ public final class StormsTest {
         Check.due("not struck", x.town(1, 2, 2), 4);
         Check.due("not struck", x.town(1, 59, 2), 4);
         Check.due("struck on the last day", x.town(1, 60, 2), 2);
+        HungInStorm five = Check.laid("v0,1;t0,0,60,1,2;z0,2;z0,4;z0,6;z0,8;z0,60;");
+        Check.due("struck twice", five.town(0, 5, 2), 15);
+        Check.due("struck on each of five days", five.town(0, 60, 2), 1);
         HungInStorm y = Check.laid("v0,0;v0,1;t1,0,1,1,2;t0,0,20,2,0;z1,1;m1,1,1;");
         Check.dueTown(y, 0, 1, 1, 0, 0);
         Check.dueTown(y, 0, 2, 0, 0, 0);

@@ -81,6 +81,7 @@ public final class ThingsTest {
         Check.due("seenTwice, 4", x.seenTwice(0, 0, 12, 12, 3), 4);
         Check.due("seenTwice, none", x.seenTwice(0, 0, 12, 7, 3), 0);
         Check.due("seenTwice, 1 and 23 fit the first", x.seenTwice(0, 12, 12, 13, 1), 1);
+        Check.due("seenTwice, 1 day each", x.seenTwice(0, 1, 1, 2, 1), 1);
         Check.due("seenTwice, 99 days", x.seenTwice(0, 3, 99, 6, 99), 1);
         Check.due("seenTwice(24, ..)", x.seenTwice(24, 0, 1, 0, 1), BAD);
         Check.due("seenTwice(-1, ..)", x.seenTwice(-1, 0, 1, 0, 1), BAD);
@@ -152,6 +153,8 @@ public final class ThingsTest {
         Check.due("gusts(0, 2, 1, 1, 0)", x.gusts(0, 2, 1, 1, 0), BAD);
         Check.due("gusts(0, -1, 1, 1, 0)", x.gusts(0, -1, 1, 1, 0), BAD);
         Check.due("gusts(0, 0, 11, 1, 0)", x.gusts(0, 0, 11, 1, 0), BAD);
+        Check.due("gusts(0, 0, 11, 1, 1)", x.gusts(0, 0, 11, 1, 1), BAD);
+        Check.due("gusts(0, 1, 11, 2, 0)", x.gusts(0, 1, 11, 2, 0), BAD);
         Check.due("gusts(0, 0, -1, 1, 0)", x.gusts(0, 0, -1, 1, 0), BAD);
         Check.due("gusts(0, 0, 1, 10, 0)", x.gusts(0, 0, 1, 10, 0), BAD);
         Check.due("gusts(0, 0, 1, -1, 0)", x.gusts(0, 0, 1, -1, 0), BAD);
