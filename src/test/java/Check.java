@@ -2,15 +2,21 @@
 final class Check {
     private static int checked = 0;
     private static int wrong = 0;
+    private static String sentence = "";
 
     private Check() {
+    }
+
+    /** The document's sentence that the answers behind it are asked for; it is told with each wrong one. */
+    static void sentence(String words) {
+        sentence = "\"" + words + "\": ";
     }
 
     static void due(String call, long got, long want) {
         checked++;
         if (got != want) {
             wrong++;
-            System.out.println(call + " answered " + got + ", due is " + want);
+            System.out.println(sentence + call + " answered " + got + ", due is " + want);
         }
     }
 
@@ -18,7 +24,7 @@ final class Check {
         checked++;
         if (!holds) {
             wrong++;
-            System.out.println("not so: " + what);
+            System.out.println(sentence + "not so: " + what);
         }
     }
 
@@ -31,10 +37,16 @@ final class Check {
         return v;
     }
 
+    /** Writes a text into an object whose text is empty. */
     static void write(HungInStorm x, String text) {
-        for (int k = 0; k < text.length(); k += 8) {
-            String part = text.substring(k, Math.min(k + 8, text.length()));
-            due("write(\"" + part + "\")", x.write(part.length(), packed(part)), k + part.length());
+        writeMore(x, 0, text);
+    }
+
+    /** Writes more behind the bytes that are there. */
+    static void writeMore(HungInStorm x, int bytes, String more) {
+        for (int k = 0; k < more.length(); k += 8) {
+            String part = more.substring(k, Math.min(k + 8, more.length()));
+            due("write(\"" + part + "\")", x.write(part.length(), packed(part)), bytes + k + part.length());
         }
     }
 

@@ -305,8 +305,13 @@ public final class StormsTest {
     }
 
     private static void townDrifts() {
-        HungInStorm x = Check.laid("v23,0;v0,0;v7,0;t0,0,60,1,3;t1,13,60,1,3;t2,23,60,1,3;");
+        String storm = "v23,0;v0,0;v7,0;t0,0,60,1,3;t1,13,60,1,3;t2,23,60,1,3;";
+        HungInStorm x = null;
         for (int t = 0; t <= 60; t++) {
+            if (t % 30 == 0) {
+                // One object is good for 512 calls.
+                x = Check.laid(storm);
+            }
             Check.dueTown(x, 0, t, 0, 23 * t % 24, 60 - t / 2);
             Check.dueTown(x, 1, t, 1, 13, 60 - t / 2);
             Check.dueTown(x, 2, t, 2, (23 + 7 * t) % 24, 60 - t / 2);
