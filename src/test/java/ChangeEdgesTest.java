@@ -16,6 +16,8 @@ public final class ChangeEdgesTest {
         undoneWhatChangesNothing();
         undoneNotWhatIsRefused();
         undoneBehindTheOldest();
+        undoneOfEachTown();
+        answersAreNew();
         yearsAll();
         yearPlaceOfEach();
         yearToDaySixty();
@@ -235,6 +237,55 @@ public final class ChangeEdgesTest {
         Check.due("town(1, 0, 2)", y.town(1, 0, 2), 3);
     }
 
+    private static void undoneOfEachTown() {
+        Check.sentence("the last 8 can be");
+        // Twelve fillings of six towns: eight of them are undone one by one, each of its own town.
+        HungInStorm x = Check.laid("v0,1;t0,0,1,1,2;t0,0,2,1,2;t0,0,3,1,2;t0,0,4,1,2;t0,0,5,1,2;t0,0,6,1,2;");
+        for (int k = 0; k < 12; k++) {
+            x.fill(k % 6, 20 + k);
+        }
+        for (int k = 11; k >= 4; k--) {
+            Check.due("undo()", x.undo(), k - 4);
+            for (int i = 0; i < 6; i++) {
+                int last = (k - 1 - i) / 6 * 6 + i;
+                int want = k - 1 - i < 0 ? i + 1 : 20 + last;
+                Check.due("town(" + i + ", 0, 2) behind " + k, x.town(i, 0, 2), want);
+            }
+        }
+        Check.due("undo()", x.undo(), NO);
+    }
+
+    /** What has been answered ahead of a change is not answered behind it. */
+    private static void answersAreNew() {
+        Check.sentence("An ERRAND can be told, GAS filled (it is G then). UNDONE is the latest of these. As KEPT last");
+        HungInStorm x = Check.laid("v0,1;v0,1;t0,0,9,1,2;t1,0,9,1,2;t0,0,9,1,2;");
+        Check.due("meet(0, 1)", x.meet(0, 1), NONE);
+        x.keep();
+        x.errand(1, 5, false);
+        Check.due("meet(0, 1) behind errand()", x.meet(0, 1), 5);
+        x.undo();
+        Check.due("meet(0, 1) behind undo()", x.meet(0, 1), NONE);
+        x.fill(1, 0);
+        Check.due("meet(0, 1) behind fill()", x.meet(0, 1), 1);
+        x.undo();
+        Check.due("meet(0, 1) behind undo()", x.meet(0, 1), NONE);
+        x.fill(0, 0);
+        Check.due("lost(0) behind fill()", x.lost(0), 1);
+        Check.due("markets(60) behind fill()", x.markets(60), 0);
+        x.back();
+        Check.due("lost(0) behind back()", x.lost(0), NONE);
+        Check.due("markets(60) behind back()", x.markets(60), 60);
+        x.wipe();
+        Check.write(x, "v0,1;v0,1;t0,0,9,1,2;t1,0,9,1,2;m1,7,0;");
+        Check.due("markets(60) behind write()", x.markets(60), 60);
+        x.lay();
+        Check.due("markets(60) behind lay()", x.markets(60), 54);
+        Check.due("catches(0, 1, 1) behind lay()", x.catches(0, 1, 1), 8);
+        x.errand(1, 1, false);
+        Check.due("catches(0, 1, 1) behind errand()", x.catches(0, 1, 1), 9);
+        Check.due("trades(0, 60, 1) behind errand()", x.trades(0, 60, 1), 60);
+    }
+
     private static int drawn(int z, int i) {
         long q = (7919L * z % 65521 + 6151L * i % 65521 + 1) % 65521;
         return (int) (q * q % 65521 % 24);
@@ -395,6 +446,7 @@ public final class ChangeEdgesTest {
         Check.due("count(6)", x.count(6), 16);
         Check.due("level(0, 0)", x.level(0, 0), 0);
         Check.due("errand, the ninth", x.errand(0, 1, true), FULL);
+        keptDays();
         // With no errand and no gas it is kept as well.
         HungInStorm y = Check.laid("v0,1;v0,1;t1,0,0,2,2;");
         y.keep();
@@ -403,6 +455,28 @@ public final class ChangeEdgesTest {
         y.back();
         Check.due("count(2)", y.count(2), 0);
         Check.dueTown(y, 0, 1, 0, 0, 0);
+    }
+
+    /** All eight errands, each of another town, day and way than the one that stands in its stead ahead of back. */
+    private static void keptDays() {
+        HungInStorm x = Check.laid("v0,1;v0,1;v0,1;t1,0,60,1,2;t1,0,60,1,2;");
+        for (int k = 1; k <= 8; k++) {
+            x.errand(0, 5 * k, k % 2 == 0);
+        }
+        x.keep();
+        for (int k = 1; k <= 8; k++) {
+            x.undo();
+        }
+        for (int k = 1; k <= 8; k++) {
+            x.errand(1, 6 * k, k % 2 == 1);
+        }
+        Check.due("errands of the other town", x.town(1, 59, 2), 56);
+        x.back();
+        for (int t = 0; t <= 60; t++) {
+            int run = Math.min(t / 5, 8);
+            Check.dueTown(x, 0, t, 1 - run % 2, 0, 60 - run / 2);
+        }
+        Check.dueTown(x, 1, 60, 1, 0, 60);
     }
 
     private static void keptOnce() {

@@ -22,6 +22,8 @@ public final class MarketEdgesTest {
         catchNotOnDayNought();
         catchThroughLightning();
         catchByKind();
+        catchGasNoughtAtLeast();
+        catchTooPoorForTheStruckLevel();
         catchRoundTheEye();
         keepsBehindNoDay();
         keepsLowest();
@@ -272,6 +274,39 @@ public final class MarketEdgesTest {
                 dueCatch(x, kind, 4, 3, left[wet][kind]);
             }
         }
+    }
+
+    private static void catchGasNoughtAtLeast() {
+        Check.sentence("all else is as told: 0 at least");
+        // Each comes down on day 1 to a dry level, with 0, 1, 2 and 3 of gas; one that is light loses none on it.
+        int[][] left = {{0, 0, 1, 2}, {0, 0, 0, 1}, {0, 0, 1, 2}, {0, 1, 2, 3}};
+        HungInStorm x = Check.laid("v0,0;v0,1;t1,3,9,9,0;t1,3,9,9,1;t1,3,9,9,2;t1,3,9,9,3;t0,3,60,1,2;");
+        for (int kind = 0; kind <= 3; kind++) {
+            for (int gas = 0; gas <= 3; gas++) {
+                x.fill(kind, gas);
+                dueCatch(x, kind, 4, 1, left[kind][gas]);
+            }
+        }
+        // Struck as well: 0, 0, 1, 1 are left, then what the kind loses.
+        HungInStorm y = Check.laid("v0,0;v0,1;t1,3,9,9,0;t1,3,9,9,1;t1,3,9,9,2;t1,3,9,9,3;t0,3,60,1,2;z0,1;");
+        for (int kind = 0; kind <= 3; kind++) {
+            for (int gas = 0; gas <= 5; gas++) {
+                y.fill(kind, gas);
+                int loss = kind == 3 ? 0 : kind == 1 ? 2 : 1;
+                dueCatch(y, kind, 4, 1, Math.max(gas / 2 - loss, 0));
+            }
+        }
+    }
+
+    private static void catchTooPoorForTheStruckLevel() {
+        Check.sentence("where it can not, it stays");
+        HungInStorm x = Check.laid("v0,1;v0,1;t0,3,9,9,2;t1,3,9,1,2;z1,1;");
+        for (int gas = 1; gas <= 9; gas++) {
+            x.fill(0, gas);
+            dueCatch(x, 0, 1, NONE, NONE);
+        }
+        x.fill(0, 10);
+        dueCatch(x, 0, 1, 1, 0);
     }
 
     private static void catchRoundTheEye() {

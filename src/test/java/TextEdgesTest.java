@@ -19,6 +19,7 @@ public final class TextEdgesTest {
         longestText();
         lowestBytes();
         wipedText();
+        wipedTextIsNotRead();
         figures();
         numbersOfLevel();
         numbersOfTown();
@@ -147,6 +148,18 @@ public final class TextEdgesTest {
         }
     }
 
+    private static void wipedTextIsNotRead() {
+        Check.sentence("THE TEXT is empty: what was there ahead of it does not count");
+        String text = "v2,0;t0,0,9,1,0;";
+        for (int length = 0; length <= text.length(); length++) {
+            HungInStorm x = written(text + text);
+            x.wipe();
+            Check.write(x, text.substring(0, length));
+            Check.due("fault() of " + length, x.fault(), length == 0 || length == 5 || length == 16 ? NONE : length < 5 ? 0 : 5);
+            Check.due("lay() of " + length, x.lay(), length == 16 ? 1 : NO);
+        }
+    }
+
     private static void figures() {
         Check.sentence("numbers (one or two figures)");
         dueFault("v,0;", 0);
@@ -232,6 +245,14 @@ public final class TextEdgesTest {
             dueFault(TOWN + letters[k] + ";", 11);
             dueFault(TOWN + letters[k], 11);
         }
+        // One less, behind one with all: what that one had does not count for it.
+        dueFault("v1,1;v1;", 5);
+        dueFault("z0,1;z0;", 5);
+        dueFault(TOWN + "m0,1,1;m0,1;", 18);
+        dueFault("t0,1,1,1,1;t0,1,1,1;", 11);
+        dueFault("t0,1,1,1,1;v1;", 11);
+        dueFault("t0,1,1,1,1;z0;", 11);
+        dueFault("t0,1,1,1,1;m0,1;", 11);
     }
 
     private static void lettersTaken() {
@@ -401,7 +422,11 @@ public final class TextEdgesTest {
         HungInStorm x = written("v7,0;t0,0,9,1,0;");
         Check.due("lay()", x.lay(), 1);
         Check.due("count(6)", x.count(6), 16);
+        Check.dueTown(x, 0, 1, 0, 7, 8);
+        x.fill(0, 5);
+        Check.dueTown(x, 0, 1, 0, 7, 4);
         Check.due("lay() once more", x.lay(), 1);
+        Check.dueTown(x, 0, 1, 0, 7, 8);
         Check.writeMore(x, 16, "t0,1,9,1,0;");
         Check.due("lay() with more behind it", x.lay(), 2);
         Check.due("wipe()", x.wipe(), 27);
