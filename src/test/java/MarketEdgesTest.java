@@ -87,6 +87,13 @@ public final class MarketEdgesTest {
         dueStay(x, 0, 2, 0, 2);
         dueStay(x, 0, 3, 0, 4);
         dueStay(x, 2, 3, 0, 4);
+        HungInStorm y = Check.laid("v5,0;v8,0;v13,0;t2,7,9,1,0;t0,7,9,1,0;t1,7,9,1,0;t2,7,9,1,0;");
+        dueStay(y, 0, 1, 0, 3);
+        dueStay(y, 0, 2, 0, 24);
+        dueStay(y, 0, 3, 0, 1);
+        dueStay(y, 1, 2, 0, 8);
+        dueStay(y, 2, 0, 0, 24);
+        dueStay(y, 3, 1, 0, 3);
     }
 
     private static void stayWhateverLevel() {
@@ -231,6 +238,10 @@ public final class MarketEdgesTest {
         x.fill(1, 4);
         Check.due("lost(1)", x.lost(1), 5);
         dueCatch(x, 0, 1, NONE, NONE);
+        HungInStorm anew = Check.laid("v0,1;v1,1;t1,20,8,9,2;t0,0,4,1,0;t0,20,60,1,2;");
+        dueCatch(anew, 0, 1, NONE, NONE);
+        dueCatch(anew, 0, 2, 1, 8);
+        dueCatch(anew, 0, 1, NONE, NONE);
         // The hunter without gas sinks on day 1 to level 0, and is lost on day 2, when the other one comes.
         HungInStorm y = Check.laid("v0,1;v0,1;v0,1;t1,3,0,1,2;t2,3,9,1,2;t0,3,9,1,2;m1,2,0;m1,2,0;");
         dueCatch(y, 0, 2, 1, 0);
@@ -427,6 +438,12 @@ public final class MarketEdgesTest {
             dueTrades(x, 0, 1, l, 5);
             dueTrades(x, 0, 60, l, 300);
         }
+        // With fewer towns than levels, the highest level; with more towns, no level above it.
+        HungInStorm few = Check.laid("v7,1;".repeat(6) + "t0,3,9,1,2;t5,3,9,1,2;");
+        dueTrades(few, 0, 60, 5, 60);
+        dueKeeps(few, 0, 60, 0, 9);
+        HungInStorm many = Check.laid("v7,1;t0,3,9,1,2;" + "t0,3,9,1,2;".repeat(5));
+        dueTrades(many, 5, 60, 0, 300);
         HungInStorm y = Check.laid("v7,1;v7,1;v7,1;t0,3,9,1,2;t0,3,9,1,2;t1,3,9,1,2;t1,3,9,1,2;t2,3,9,1,2;t2,3,9,1,2;");
         dueTrades(y, 0, 1, 1, 2);
         dueTrades(y, 5, 1, 0, 2);

@@ -36,6 +36,7 @@ public final class TextEdgesTest {
         howManyLightnings();
         firstFault();
         levelsFromBelow();
+        levelPaceAndWet();
         townsInTheirOrder();
         laidWithTheLeast();
         laidWithAllLevels();
@@ -358,6 +359,19 @@ public final class TextEdgesTest {
         Check.dueTown(x, 0, 1, 1, 11, 0);
         Check.dueTown(x, 0, 2, 0, 21, 0);
         Check.due("lost(0)", x.lost(0), 3);
+    }
+
+    private static void levelPaceAndWet() {
+        Check.sentence("Of a LEVEL: PACE (what = 0), 1 if it is wet (1)");
+        for (int pace = 0; pace <= 23; pace++) {
+            for (int wet = 0; wet <= 1; wet++) {
+                HungInStorm x = Check.laid(("v" + pace + "," + wet + ";v" + (23 - pace) + "," + (1 - wet) + ";").repeat(3) + TOWN);
+                for (int l = 0; l <= 5; l++) {
+                    Check.due("level(" + l + ", 0)", x.level(l, 0), l % 2 == 0 ? pace : 23 - pace);
+                    Check.due("level(" + l + ", 1)", x.level(l, 1), l % 2 == 0 ? wet : 1 - wet);
+                }
+            }
+        }
     }
 
     private static void townsInTheirOrder() {
